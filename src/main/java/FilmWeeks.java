@@ -97,7 +97,7 @@ public final class FilmWeeks {
 
     public int bar(int film, int before, int most, int beside) {
         boolean besideItself = beside != NONE && beside == film;
-        if (!isMinute(before) || !within(most, 0, SHOWINGS) || besideItself) {
+        if (!isMinute(before) || !within(most, 0, Films.WITHOUT_MOST) || besideItself) {
             return told(WRONG_NUMBER);
         }
         if (!films.has(film) || (beside != NONE && !films.has(beside))) {
@@ -425,6 +425,8 @@ public final class FilmWeeks {
 
     /** FILMS with their GUESTS and BARS. */
     private static final class Films {
+        static final int WITHOUT_MOST = 60;
+
         final int[] minutes = new int[FILMS];
         final int[] format = new int[FILMS];
         final int[] fame = new int[FILMS];
@@ -447,7 +449,7 @@ public final class FilmWeeks {
             format[many] = itsFormat;
             fame[many] = itsFame;
             setGuest(many, NONE, NONE);
-            setBars(many, 0, SHOWINGS, NONE);
+            setBars(many, 0, WITHOUT_MOST, NONE);
             many++;
             return many - 1;
         }
@@ -465,6 +467,11 @@ public final class FilmWeeks {
 
         boolean guestStays(int film, int begin, int ending) {
             return guestFrom[film] != NONE && guestFrom[film] <= begin && guestTo[film] >= ending;
+        }
+
+        // Without this BAR a sixty-first showing is not barred: there is no room for it.
+        boolean isBarredAtMost(int film) {
+            return atMost[film] != WITHOUT_MOST;
         }
 
         boolean barOneAnother(int film, int other) {
@@ -559,7 +566,7 @@ public final class FilmWeeks {
             if (begin < films.notBefore[film]) {
                 return 7;
             }
-            if (manyOf(film, except) >= films.atMost[film]) {
+            if (films.isBarredAtMost(film) && manyOf(film, except) >= films.atMost[film]) {
                 return 8;
             }
             return isBesideBarred(film, hall, begin, ending, except) ? 9 : 0;
@@ -1231,8 +1238,10 @@ public final class FilmWeeks {
         }
 
         private void gather(int known) {
-            Arrays.fill(running, false);
-            Arrays.fill(firsts, 0);
+            for (int film = 0; film < FILMS; film++) {
+                running[film] = false;
+                firsts[film] = 0;
+            }
             for (int juror = 0; juror < jury.many; juror++) {
                 int many = 0;
                 for (int i = 0; i < jury.votesOf[juror]; i++) {
@@ -1262,7 +1271,7 @@ public final class FilmWeeks {
             return film;
         }
 
-        /** Each round but the last puts one FILM out, so there are at most as many as FILMS. */
+        // Each round but the last puts one FILM out, so there are at most as many as FILMS.
         private int decideByRounds() {
             for (int k = 0; k < FILMS; k++) {
                 openRound(k);

@@ -8,6 +8,7 @@ public final class GridTest {
         crowdAndWorth();
         hours();
         betterTies();
+        betterLooksBeside();
         betterKeepsToWhy();
         betterStopsAtForty();
         betterKeepsTheRest();
@@ -105,6 +106,41 @@ public final class GridTest {
         due.is("as it began", y.of(0, 2), 600);
         due.is("another hall", y.of(0, 1), 1);
         due.is("no more", y.better(), 0);
+    }
+
+    private static void betterLooksBeside() {
+        FilmWeeks x = new FilmWeeks();
+        x.hall(0, 200, 0, 1);
+        x.hall(0, 200, 0, 1);
+        x.hall(1, 200, 0, 1);
+        x.film(100, 0, 100);
+        x.film(100, 0, 90);
+        x.put(0, 0, 600, 0);
+        x.put(1, 1, 650, 0);
+        due.is("grid()", x.grid(), 50 + 45);
+        x.hour(1200);
+        due.is("the one that stays wins too", x.better(), 1);
+        due.is("the lower showing, the lower hall", x.of(0, 1), 0);
+        due.is("the hour", x.of(0, 2), 1200);
+        due.is("grid()", x.grid(), 190);
+
+        int[] fames = {1000, 983, 982, 981, 980, 800};
+        for (int fame : fames) {
+            FilmWeeks y = new FilmWeeks();
+            y.hall(0, 9, 0, 1);
+            y.hall(1, 2000, 0, 1);
+            y.hall(1, 2000, 0, 1);
+            y.film(100, 0, fame);
+            y.film(100, 0, 1000);
+            y.put(0, 1, 600, 0);
+            y.put(1, 0, 600, 0);
+            y.bar(0, 0, 0, NONE);
+            int before = fame + 9;
+            due.is("grid()", y.grid(), before);
+            int changes = fame / 2 + 500 > before ? 1 : 0;
+            due.is("what it takes from the other is looked at, fame " + fame, y.better(), changes);
+            due.is("grid()", y.grid(), changes == 1 ? fame / 2 + 500 : before);
+        }
     }
 
     private static void betterKeepsToWhy() {

@@ -207,7 +207,7 @@ final class Model {
         if (s.sort == 1 && (f.from == -1 || s.begin < f.from || end > f.to)) return 5;
         if (s.sort == 2 && s.begin % 1440 >= 120 && s.begin % 1440 < 1320) return 6;
         if (s.begin < f.before) return 7;
-        if (others.stream().filter(o -> o.film == s.film).count() + 1 > f.most) return 8;
+        if (f.most < 60 && others.stream().filter(o -> o.film == s.film).count() + 1 > f.most) return 8;
         for (Showing o : others) {
             if ((f.beside == o.film || films.get(o.film).beside == s.film) && atOnce(s, o)) return 9;
         }

@@ -19,6 +19,7 @@ public final class ProgrammeTest {
         firstReasonIsTold();
         put();
         putHasNoRoom();
+        sixtyIsWithout();
         take();
         of();
         due.end();
@@ -297,6 +298,7 @@ public final class ProgrammeTest {
         due.is("no film", x.put(1, 0, 0, 0), -2);
         due.is("no hall", x.put(0, 4, 0, 0), -2);
         due.is("barred", x.put(0, 0, 0, 1), -3);
+        due.is("barred by its end", x.put(0, 0, 14391, 0), -3);
         due.is("nothing was put", x.count(3), 0);
         due.is("put", x.put(0, 0, 0, 2), 0);
         due.is("put again", x.put(0, 0, 0, 2), -3);
@@ -320,6 +322,23 @@ public final class ProgrammeTest {
         due.is("barred comes ahead of no room", x.put(0, 0, 10, 0), -3);
         due.is("no film comes ahead of no room", x.put(1, 0, 0, 0), -2);
         due.is("the last is there", x.of(59, 2), 590);
+    }
+
+    private static void sixtyIsWithout() {
+        FilmWeeks x = fourHalls();
+        x.film(10, 0, 0);
+        for (int i = 0; i < 60; i++) {
+            x.put(0, 0, i * 10, 0);
+        }
+        due.is("count(2)", x.count(2), 60);
+        due.is("no bar at first", x.why(0, 0, 1000, 0), 0);
+        due.is("no room", x.put(0, 0, 1000, 0), -5);
+        x.bar(0, 0, 59, NONE);
+        due.is("at most 59", x.why(0, 0, 1000, 0), 8);
+        due.is("at most 59", x.put(0, 0, 1000, 0), -3);
+        x.bar(0, 0, 60, NONE);
+        due.is("60: without", x.why(0, 0, 1000, 0), 0);
+        due.is("no room", x.put(0, 0, 1000, 0), -5);
     }
 
     private static void take() {

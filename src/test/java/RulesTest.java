@@ -58,7 +58,7 @@ public final class RulesTest {
     /** The caret in each text stands ahead of the TOKEN that can't go on. */
     private static void faults() {
         String[] texts = {
-            "^", "   ^", "^x", "^saw", "^counts saw;rounds;tie film", "^Count saw;rounds;tie film",
+            "^", "   ^", "^x", "^saw", "^zount saw;rounds;tie film", "count ^sawz;rounds;tie film", "count ^zsaw", "^counts saw;rounds;tie film", "^Count saw;rounds;tie film",
             "^countsaw;rounds;tie film", "count^", "count  ^", "count ^;rounds;tie film", "count saw^",
             "count saw ^saw;rounds;tie film", "count saw ^not kin;rounds;tie film", "count saw and ^;rounds;tie film",
             "count saw or ^or;rounds;tie film", "count ^and saw;rounds;tie film", "count not ^;rounds;tie film",

@@ -73,6 +73,11 @@ public final class WildTest {
             x.put(i % 20, i % 4, (i / 4) * 30, 0);
         }
         due.is("showings", x.count(2), 60);
+        for (int i = 0; i < 60; i++) {
+            x.delay(i, 300);
+        }
+        due.holds("all are late behind one another", x.of(59, 7) >= 14 * 330 && x.queue(59, 400, 0) == 0);
+        x.delay(0, 0);
         for (int time = 0; time < 30; time++) {
             for (int i = 0; i < 10; i++) {
                 x.hour(1000 + 400 * time + 30 * i);

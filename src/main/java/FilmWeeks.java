@@ -808,10 +808,8 @@ public final class FilmWeeks {
             int many = sortByBegin();
             for (int i = 0; i < many; i++) {
                 int showing = order[i];
-                int begin = showings.begin[showing];
-                for (int j = 0; j < i; j++) {
-                    begin = Math.max(begin, freeBehind(order[j], showing));
-                }
+                int free = Math.max(hallFree(i), printFree(i));
+                int begin = Math.max(showings.begin[showing], free);
                 trueBegin[showing] = begin;
                 trueEnd[showing] = begin + films.minutes[showings.film[showing]] + showings.delays[showing];
             }
@@ -833,20 +831,28 @@ public final class FilmWeeks {
             return many;
         }
 
-        /** When the HALL and the PRINT of the one ahead are free for the showing; 0 where it needs neither. */
-        private int freeBehind(int ahead, int showing) {
-            int free = 0;
-            if (showings.begin[ahead] >= showings.begin[showing]) {
-                return free;
+        /** No two in one HALL begin alike (WHY 3), so the first one found on the way back is the one ahead. */
+        private int hallFree(int place) {
+            int hall = showings.hall[order[place]];
+            for (int i = place - 1; i >= 0; i--) {
+                int ahead = order[i];
+                if (showings.hall[ahead] == hall) {
+                    return trueEnd[ahead] + halls.clearing[hall];
+                }
             }
-            int hall = showings.hall[showing];
-            if (showings.hall[ahead] == hall) {
-                free = trueEnd[ahead] + halls.clearing[hall];
+            return 0;
+        }
+
+        /** No two of one FILM begin alike (WHY 4). The WAY is from the one ahead alone: that is where the PRINT is. */
+        private int printFree(int place) {
+            int showing = order[place];
+            for (int i = place - 1; i >= 0; i--) {
+                int ahead = order[i];
+                if (showings.film[ahead] == showings.film[showing]) {
+                    return trueEnd[ahead] + halls.wayBetween(showings.hall[ahead], showings.hall[showing]);
+                }
             }
-            if (showings.film[ahead] == showings.film[showing]) {
-                free = Math.max(free, trueEnd[ahead] + halls.wayBetween(showings.hall[ahead], hall));
-            }
-            return free;
+            return 0;
         }
 
         /** Needs reckon() ahead of it; leaves who is inside and outside behind minute "last". */

@@ -1,7 +1,10 @@
 import java.util.ArrayList;
 import java.util.Comparator;
+import java.util.HashMap;
 import java.util.List;
+import java.util.Map;
 import java.util.stream.Collectors;
+import java.util.stream.Stream;
 
 /**
  * The document once more in its plainest form, with the library and without regard to cost: every question is
@@ -247,18 +250,28 @@ final class Model {
         return there().stream().mapToInt(this::worth).sum();
     }
 
+    /** Known ones are kept for one question: the two ways back from each showing would double and double. */
     private int trueBegin(Showing s) {
+        return trueBegin(s, new HashMap<>());
+    }
+
+    private int trueBegin(Showing s, Map<Showing, Integer> known) {
+        if (known.containsKey(s)) return known.get(s);
         int t = s.begin;
-        for (Showing o : there()) {
-            if (o.begin >= s.begin) continue;
-            if (o.hall == s.hall) t = Math.max(t, trueEnd(o) + halls.get(s.hall).clear());
-            if (o.film == s.film) t = Math.max(t, trueEnd(o) + ways[townOf(o)][townOf(s)]);
-        }
+        Showing inHall = latest(there().stream().filter(o -> o.hall == s.hall && o.begin < s.begin));
+        Showing ofFilm = latest(there().stream().filter(o -> o.film == s.film && o.begin < s.begin));
+        if (inHall != null) t = Math.max(t, trueEnd(inHall, known) + halls.get(s.hall).clear());
+        if (ofFilm != null) t = Math.max(t, trueEnd(ofFilm, known) + ways[townOf(ofFilm)][townOf(s)]);
+        known.put(s, t);
         return t;
     }
 
-    private int trueEnd(Showing s) {
-        return trueBegin(s) + films.get(s.film).minutes + s.delay;
+    private static Showing latest(Stream<Showing> some) {
+        return some.max(Comparator.comparingInt(o -> o.begin)).orElse(null);
+    }
+
+    private int trueEnd(Showing s, Map<Showing, Integer> known) {
+        return trueBegin(s, known) + films.get(s.film).minutes + s.delay;
     }
 
     private int of(int n, int what) {
@@ -273,7 +286,7 @@ final class Model {
             case 5: return crowd(s);
             case 6: return worth(s);
             case 7: return trueBegin(s);
-            case 8: return trueEnd(s);
+            case 8: return trueEnd(s, new HashMap<>());
             default: return -1;
         }
     }

@@ -30,6 +30,7 @@ public final class ModelTest {
             new ModelTest(i).office();
             new ModelTest(100000 + i).jury();
             new ModelTest(200000 + i).texts();
+            new ModelTest(400000 + i).late();
         }
         for (int i = 0; i < grids; i++) {
             new ModelTest(300000 + i).grids();
@@ -149,6 +150,33 @@ public final class ModelTest {
                 call("of", s, 1);
                 call("of", s, 2);
             }
+        }
+    }
+
+    /** Few prints among many halls, showings close together, and WAYS told anew: much waits for the one ahead. */
+    private void late() throws Exception {
+        for (int i = 0; i < 4; i++) {
+            call("hall", any(0, 3), 10, any(0, 2) * 10, 15);
+        }
+        for (int i = any(1, 3); i > 0; i--) {
+            call("film", any(1, 60), 0, 0);
+        }
+        for (int i = any(5, 80); i > 0; i--) {
+            call("put", film(), any(0, 3), any(0, 1500), 0);
+        }
+        for (int i = 0; i < 100; i++) {
+            switch (random.nextInt(6)) {
+                case 0: call("way", any(0, 3), any(0, 3), any(0, random.nextBoolean() ? 60 : 2000)); break;
+                case 1: call("delay", showing(), any(0, random.nextBoolean() ? 30 : 300)); break;
+                case 2: if (random.nextInt(4) == 0) { call("take", showing()); } break;
+                case 3: call("come", showing(), any(-40, 10), any(0, 9)); call("doors", any(1, 3)); break;
+                case 4: call("queue", showing(), near(-40, 400), any(0, 2)); break;
+                default: call("of", showing(), any(7, 8)); break;
+            }
+        }
+        for (int s = 0; s < model.showings.size(); s++) {
+            call("of", s, 7);
+            call("queue", s, any(-20, 200), any(0, 2));
         }
     }
 

@@ -9,6 +9,7 @@ public final class QueueTest {
         delays();
         lateInHall();
         latePrint();
+        onlyTheOneAhead();
         doorsOpenAndShut();
         seatsEnd();
         lateDoors();
@@ -125,6 +126,36 @@ public final class QueueTest {
         due.is("or its own print, if that is later", x.of(3, 7), 850);
         x.way(2, 1, 7);
         due.is("and the way", x.of(3, 7), 857);
+    }
+
+    /** The way round is shorter than the direct WAY, so waiting for all of those ahead would be seen. */
+    private static void onlyTheOneAhead() {
+        FilmWeeks x = new FilmWeeks();
+        x.hall(0, 10, 0, 1);
+        x.hall(1, 10, 0, 1);
+        x.hall(2, 10, 0, 1);
+        x.film(50, 0, 1);
+        x.film(50, 0, 1);
+        x.way(0, 1, 10);
+        x.way(1, 2, 20);
+        x.put(0, 2, 1000, 0);
+        x.put(0, 0, 600, 0);
+        x.put(0, 1, 700, 0);
+        x.put(1, 0, 710, 0);
+        x.way(0, 2, 500);
+        due.is("not the one ahead of the one ahead", x.of(0, 7), 1000);
+        due.is("nor its end", x.of(0, 8), 1050);
+        x.delay(1, 300);
+        due.is("the one ahead is late", x.of(2, 7), 960);
+        due.is("and makes the next one late", x.of(0, 7), 1030);
+        due.is("the hall's one ahead", x.of(3, 7), 950);
+        x.delay(2, 5);
+        due.is("with its delay", x.of(0, 7), 1035);
+        x.come(0, -40, 1);
+        due.is("doors are shut ahead of the true beginning", x.queue(0, 4, 0), 0);
+        due.is("and open by it", x.queue(0, 5, 0), 1);
+        x.take(2);
+        due.is("now the first is the one ahead", x.of(0, 7), 1450);
     }
 
     private static void doorsOpenAndShut() {

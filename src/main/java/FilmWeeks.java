@@ -1186,13 +1186,14 @@ public final class FilmWeeks {
             if (at >= length) {
                 return;
             }
-            if (isLetter(tape[at])) {
-                while (next < length && isLetter(tape[next])) {
+            int first = tape[at];
+            if (first >= 'a' && first <= 'z') {
+                while (next < length && tape[next] >= 'a' && tape[next] <= 'z') {
                     next++;
                 }
-            } else if (isDigit(tape[at])) {
+            } else if (first >= '0' && first <= '9') {
                 number = 0;
-                while (next < length && isDigit(tape[next])) {
+                while (next < length && tape[next] >= '0' && tape[next] <= '9') {
                     // A long row of digits stays at one beyond the greatest NUMBER.
                     number = Math.min(MOST_NUMBER + 1, number * 10 + tape[next] - '0');
                     next++;
@@ -1200,14 +1201,6 @@ public final class FilmWeeks {
             } else {
                 next++;
             }
-        }
-
-        private static boolean isLetter(int b) {
-            return b >= 'a' && b <= 'z';
-        }
-
-        private static boolean isDigit(int b) {
-            return b >= '0' && b <= '9';
         }
     }
 

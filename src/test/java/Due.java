@@ -3,6 +3,11 @@ import java.util.Arrays;
 
 /** Compares answers with those that are due, and ends a test with exit code 1 if one was wrong. */
 final class Due {
+    /** A call that can be made on any object, so that it can be made on fresh ones. */
+    interface Call {
+        int on(FilmWeeks x);
+    }
+
     private final String test;
     private int asked = 0;
     private int wrong = 0;
@@ -21,6 +26,40 @@ final class Due {
 
     void holds(String what, boolean good) {
         is(what, good ? 1 : 0, 1);
+    }
+
+    /** The code, and that status told none ahead of the call and tells it behind. */
+    void refused(String what, FilmWeeks x, Call call, int code) {
+        tellNone(x);
+        is(what, call.on(x), code);
+        is("status() behind " + what, x.status(), code);
+    }
+
+    /** The answer, and that status told a code ahead of the call and tells none behind. */
+    void taken(String what, FilmWeeks x, Call call, int answer) {
+        tellCode(x);
+        is(what, call.on(x), answer);
+        is("status() behind " + what, x.status(), 0);
+    }
+
+    /** The answer of a call that only asks: twice the same, and status stays, be it a code or 0. */
+    void asked(String what, FilmWeeks x, Call call, int answer) {
+        tellCode(x);
+        is(what, call.on(x), answer);
+        is("status() behind " + what, x.status(), -1);
+        tellNone(x);
+        is(what + ", again", call.on(x), answer);
+        is("status() behind " + what + ", again", x.status(), 0);
+    }
+
+    /** Leaves all but status, where no test tells the PART of hour 23 anew. */
+    static void tellNone(FilmWeeks x) {
+        x.part(23, 100);
+    }
+
+    /** Leaves all but status: a refused call. */
+    static void tellCode(FilmWeeks x) {
+        x.part(24, 100);
     }
 
     void end() {

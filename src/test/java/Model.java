@@ -237,17 +237,21 @@ final class Model {
         return 0;
     }
 
-    private int crowd(Showing s) {
-        int beside = (int) there().stream().filter(o -> o != s && atOnce(s, o)).count();
+    private int crowd(Showing s, List<Showing> all) {
+        int beside = 0;
+        for (Showing o : all) {
+            if (o != s && atOnce(s, o)) beside++;
+        }
         return films.get(s.film).fame * parts[s.begin % 1440 / 60] / 100 / (1 + beside);
     }
 
-    private int worth(Showing s) {
-        return Math.min(crowd(s), halls.get(s.hall).seats());
+    private int worth(Showing s, List<Showing> all) {
+        return Math.min(crowd(s, all), halls.get(s.hall).seats());
     }
 
     private int grid() {
-        return there().stream().mapToInt(this::worth).sum();
+        List<Showing> all = there();
+        return all.stream().mapToInt(s -> worth(s, all)).sum();
     }
 
     /** Known ones are kept for one question: the two ways back from each showing would double and double. */
@@ -283,8 +287,8 @@ final class Model {
             case 2: return s.begin;
             case 3: return s.sort;
             case 4: return endOf(s);
-            case 5: return crowd(s);
-            case 6: return worth(s);
+            case 5: return crowd(s, there());
+            case 6: return worth(s, there());
             case 7: return trueBegin(s);
             case 8: return trueEnd(s, new HashMap<>());
             default: return -1;

@@ -34,6 +34,7 @@ public final class ModelTest {
         }
         for (int i = 0; i < grids; i++) {
             new ModelTest(300000 + i).grids();
+            new ModelTest(500000 + i).brim();
         }
         due.end();
     }
@@ -101,7 +102,11 @@ public final class ModelTest {
 
     private void office() throws Exception {
         prepare(6);
-        for (int i = 0; i < 450; i++) {
+        changeOffice(450);
+    }
+
+    private void changeOffice(int times) throws Exception {
+        for (int i = 0; i < times; i++) {
             switch (random.nextInt(18)) {
                 case 0: call("hall", near(0, 4), near(1, 2000), near(0, 120), near(1, 15)); break;
                 case 1: call("film", near(1, 300), near(0, 3), near(0, 1000)); break;
@@ -187,7 +192,17 @@ public final class ModelTest {
         for (int i = any(1, 10); i > 0; i--) {
             call("juror", near(0, 120));
         }
-        for (int i = 0; i < 250; i++) {
+        changeJury(250);
+        call("prize", 100000);
+        for (int k = -2; k < 9; k++) {
+            for (int f = -1; f < 9; f++) {
+                call("round", k, f);
+            }
+        }
+    }
+
+    private void changeJury(int times) throws Exception {
+        for (int i = 0; i < times; i++) {
             int juror = near(0, Math.max(0, model.jurors.size() - 1));
             switch (random.nextInt(9)) {
                 case 0: case 1: case 2: call("vote", juror, film()); break;
@@ -205,12 +220,34 @@ public final class ModelTest {
                 default: call("round", near(0, 4), film()); call("count", near(0, 8)); break;
             }
         }
-        call("prize", 100000);
-        for (int k = -2; k < 9; k++) {
-            for (int f = -1; f < 9; f++) {
-                call("round", k, f);
+    }
+
+    /** All that can be full is, but for what the changes then take out. */
+    private void brim() throws Exception {
+        for (int i = 0; i < 4; i++) {
+            call("hall", any(0, 2), near(1, 2000), any(0, 2) * 10, 15);
+        }
+        for (int i = 0; i < 20; i++) {
+            call("film", any(1, 6) * 10, any(0, 3), near(0, 1000));
+        }
+        for (int i = 0; i < 66; i++) {
+            call("put", i % 20, i % 4, i / 4 * 80 + any(0, 1) * 10, 0);
+        }
+        for (int i = 0; i < 10; i++) {
+            call("juror", any(0, 120));
+            for (int j = 0; j < 5; j++) {
+                call("vote", i, any(0, 19));
             }
         }
+        for (int i = 0; i < 100; i++) {
+            call("row", any(0, 1), any(0, 9), any(0, 19), any(0, 20));
+        }
+        for (int i = 0; i < 10; i++) {
+            call("hour", begin());
+        }
+        tell(rules());
+        changeOffice(70);
+        changeJury(50);
     }
 
     private void texts() throws Exception {

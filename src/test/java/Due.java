@@ -8,12 +8,28 @@ final class Due {
         int on(FilmWeeks x);
     }
 
+    private static final int MOST_MILLIS = 600000;
+
     private final String test;
     private int asked = 0;
     private int wrong = 0;
 
     Due(String test) {
         this.test = test;
+        Thread watch = new Thread(this::failIfItDoesNotEnd);
+        watch.setDaemon(true);
+        watch.start();
+    }
+
+    /** A call that fails to end is a wrong answer too: it must not hold up .ci/run for ever. */
+    private void failIfItDoesNotEnd() {
+        try {
+            Thread.sleep(MOST_MILLIS);
+            System.out.println(test + ": a call has not ended");
+            Runtime.getRuntime().halt(1);
+        } catch (InterruptedException e) {
+            System.out.println(test + ": no longer watched");
+        }
     }
 
     void is(String call, long got, long want) {

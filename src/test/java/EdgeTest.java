@@ -22,6 +22,7 @@ public final class EdgeTest {
         betterPrefers();
         betterOverItself();
         betterFreesTheOther();
+        betterSharesWithTwo();
         comersByMinute();
         doorsMinutes();
         seatsAndDoors();
@@ -401,6 +402,34 @@ public final class EdgeTest {
             due.is("BETTER" + what, x.better(), f[2]);
             due.is("GRID" + what, x.grid(), f[2] == 1 ? f[1] : f[0] / 2 + f[1] / 2);
         }
+    }
+
+    /** The third in a town takes from both that run there: 333 of each is less than 500 of two and what it had. */
+    private static void betterSharesWithTwo() {
+        FilmWeeks x = new FilmWeeks();
+        x.hall(0, 1, 0, 1);
+        x.hall(1, 2000, 0, 1);
+        x.hall(1, 2000, 0, 1);
+        x.hall(1, 2000, 0, 1);
+        for (int film = 0; film < 3; film++) {
+            x.film(10, 0, 1000);
+            x.put(film, film, 600, 0);
+        }
+        due.is("GRID", x.grid(), 1 + 500 + 500);
+        due.is("it stays alone", x.better(), 0);
+        due.is("in its HALL", x.of(0, 1), 0);
+        FilmWeeks y = new FilmWeeks();
+        y.hall(0, 1, 0, 1);
+        y.hall(1, 333, 0, 1);
+        y.hall(1, 333, 0, 1);
+        y.hall(1, 333, 0, 1);
+        for (int film = 0; film < 3; film++) {
+            y.film(10, 0, 1000);
+            y.put(film, film, 600, 0);
+        }
+        due.is("GRID with few SEATS", y.grid(), 1 + 333 + 333);
+        due.is("it takes nothing from them", y.better(), 1);
+        due.is("GRID", y.grid(), 999);
     }
 
     /** Terms III: 51 numbers, told by minute; each showing has its own. */

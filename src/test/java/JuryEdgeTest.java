@@ -18,6 +18,7 @@ public final class JuryEdgeTest {
         oneFilm();
         everyRound();
         keptAsTheLatest();
+        rulesManyTimes();
         tokens();
         faultAtEachToken();
         faultAtTheEnd();
@@ -292,6 +293,20 @@ public final class JuryEdgeTest {
         sums(x, 0, 0, 9, 9, NONE);
         due.is("nothing is left of ROUND 1", x.round(1, 0), NONE);
         due.is("ROUNDS", x.round(-1, 0), 1);
+    }
+
+    /** RULES told anew, refused or not, keep nothing of those told before: long ones, more often than any row holds. */
+    private static void rulesManyTimes() {
+        FilmWeeks x = jury(some(1), some(0));
+        x.row(0, 0, 0, 5);
+        String cond = "saw" + " and saw".repeat(30);
+        for (int time = 0; time < 10; time++) {
+            boolean turned = time % 2 == 1;
+            due.is("RULES", Due.rules(x, "count " + (turned ? "not (" + cond + ")" : cond) + ";rounds;tie film"), 0);
+            due.is("COUNTS ahead", x.counts(0, 0, 4), turned ? 1 : 0);
+            due.is("COUNTS behind", x.counts(0, 0, 5), turned ? 0 : 1);
+            due.is("no RULES", Due.rules(x, "count " + cond + " or"), -6);
+        }
     }
 
     /** Longest rows of letters, of digits, single other bytes; any blanks between, or none. */

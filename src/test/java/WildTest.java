@@ -78,7 +78,7 @@ public final class WildTest {
         }
         due.holds("all are late behind one another", x.of(59, 7) >= 14 * 330 && x.queue(59, 400, 0) == 0);
         x.delay(0, 0);
-        for (int time = 0; time < 30; time++) {
+        for (int time = 0; time < 25; time++) {
             for (int i = 0; i < 10; i++) {
                 x.hour(1000 + 400 * time + 30 * i);
             }

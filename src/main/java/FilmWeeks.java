@@ -1194,8 +1194,10 @@ public final class FilmWeeks {
             } else if (first >= '0' && first <= '9') {
                 number = 0;
                 while (next < length && tape[next] >= '0' && tape[next] <= '9') {
-                    // A long row of digits stays at one beyond the greatest NUMBER.
-                    number = Math.min(MOST_NUMBER + 1, number * 10 + tape[next] - '0');
+                    // Once beyond the greatest NUMBER it stays so: a long row of digits can't wrap around.
+                    if (number <= MOST_NUMBER) {
+                        number = number * 10 + tape[next] - '0';
+                    }
                     next++;
                 }
             } else {

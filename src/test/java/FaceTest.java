@@ -7,7 +7,7 @@ import java.util.Arrays;
 import java.util.List;
 import java.util.TreeSet;
 
-/** The public face, promise 1 (a new object), promise 30 and 31 on it, and LANGUAGE.md's rule 1. */
+/** The public face, promise 1 (a new object), promise 30 and 31 on it, and LANGUAGE.md's rules on members. */
 public final class FaceTest {
     private static final String[] FACE = {
         "hall 4", "film 3", "way 3", "guest 3", "bar 4", "why 4", "put 4", "take 1", "of 2", "part 2", "grid 0",
@@ -47,9 +47,30 @@ public final class FaceTest {
         for (Field f : FilmWeeks.class.getDeclaredFields()) {
             due.holds(f + " is private or NONE", Modifier.isPrivate(f.getModifiers()) || f.getName().equals("NONE"));
         }
+        for (Class<?> inside : FilmWeeks.class.getDeclaredClasses()) {
+            inside(due, inside, names);
+        }
         Constructor<?>[] made = FilmWeeks.class.getDeclaredConstructors();
         due.holds("one public constructor without parameters",
                 made.length == 1 && Modifier.isPublic(made[0].getModifiers()) && made[0].getParameterCount() == 0);
+    }
+
+    /** LANGUAGE.md's rules 1, 5 and 11 for a class inside. */
+    private static void inside(Due due, Class<?> inside, TreeSet<String> names) {
+        due.holds(inside + " is private and static",
+                Modifier.isPrivate(inside.getModifiers()) && Modifier.isStatic(inside.getModifiers()));
+        for (Method m : inside.getDeclaredMethods()) {
+            due.holds(m + " bears no public name", !names.contains(m.getName()));
+        }
+        int fields = 0;
+        for (Field f : inside.getDeclaredFields()) {
+            if (Modifier.isStatic(f.getModifiers())) {
+                due.holds(f + " is final", Modifier.isFinal(f.getModifiers()));
+            } else {
+                fields++;
+            }
+        }
+        due.holds(inside + " has at most twenty fields: " + fields, fields <= 20);
     }
 
     private static void newObject(Due due) {
